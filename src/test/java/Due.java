@@ -1,0 +1,73 @@
+/** Compares answers with the ones that are due, and counts those that differ. */
+final class Due {
+    /** A call that is made in order to see what it throws. */
+    interface Call {
+        long answer();
+    }
+
+    private final String test;
+    private int compared = 0;
+    private int wrong = 0;
+
+    Due(String test) {
+        this.test = test;
+    }
+
+    void is(String call, long got, long want) {
+        compare(call, Long.toString(got), Long.toString(want));
+    }
+
+    void is(String call, boolean got, boolean want) {
+        compare(call, Boolean.toString(got), Boolean.toString(want));
+    }
+
+    void is(String call, String got, String want) {
+        compare(call, got, want);
+    }
+
+    /** Doubles are compared by their bits, so that 0.0 differs from -0.0. */
+    void isDouble(String call, double got, double want) {
+        compare(call, Double.toString(got), Double.toString(want));
+    }
+
+    void outOfBounds(String call, Call tried) {
+        compare(call, outcome(tried), "throws java.lang.IndexOutOfBoundsException");
+    }
+
+    void illegalArgument(String call, Call tried) {
+        compare(call, outcome(tried), "throws java.lang.IllegalArgumentException");
+    }
+
+    void illegalState(String call, Call tried) {
+        compare(call, outcome(tried), "throws java.lang.IllegalStateException");
+    }
+
+    /** What a call answers, or the class of what it throws: the class itself, not one above it. */
+    static String outcome(Call tried) {
+        try {
+            return Long.toString(tried.answer());
+        } catch (RuntimeException e) {
+            return "throws " + e.getClass().getName();
+        }
+    }
+
+    void compare(String call, String got, String want) {
+        compared++;
+        if (!got.equals(want)) {
+            wrong++;
+            System.out.println(test + ": " + call + " answered " + got + ", due is " + want);
+        }
+    }
+
+    int wrong() {
+        return wrong;
+    }
+
+    /** Ends the test: with exit code 1 if an answer was not the one that is due. */
+    void end() {
+        System.out.println(test + ": " + compared + " answers compared, " + wrong + " wrong");
+        if (compared == 0 || wrong != 0) {
+            System.exit(1);
+        }
+    }
+}
