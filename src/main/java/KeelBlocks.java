@@ -583,18 +583,15 @@ public final class KeelBlocks {
         private int pressed(Dock dock) {
             int set = 0;
             for (int i = 0; i < MAX_BLOCKS; i++) {
-                if (isMember(dock.standing, i) && pressTimesD(dock, i) > 0) {
+                if (isMember(dock.standing, i) && pressTimesD(dock.place[i], dock.cap[i]) > 0) {
                     set |= 1 << i;
                 }
             }
             return set;
         }
 
-        private long pressTimesD(Dock dock, int block) {
-            if (block < 0 || block >= MAX_BLOCKS) {
-                return 0;
-            }
-            return aTimesD + bTimesD * dock.place[block] + d * dock.cap[block];
+        private long pressTimesD(long place, long cap) {
+            return aTimesD + bTimesD * place + d * cap;
         }
 
         private void roundLoads(Dock dock) {
@@ -605,7 +602,7 @@ public final class KeelBlocks {
             for (int i = 0; i < MAX_BLOCKS; i++) {
                 cutOff[i] = NONE;
                 if (isMember(bearing, i)) {
-                    long forceTimesD = dock.stiffness[i] * pressTimesD(dock, i);
+                    long forceTimesD = dock.stiffness[i] * pressTimesD(dock.place[i], dock.cap[i]);
                     load[i] = (int) (forceTimesD / d);
                     cutOff[i] = forceTimesD % d;
                     rest -= load[i];

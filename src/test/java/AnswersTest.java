@@ -156,6 +156,12 @@ final class AnswersTest {
         // forces 1000 * 3 / 10 and so on are whole, with 1003 they end in .9, .2 and .9
         DUE.is("the greatest fractions", Plans.loads(Plans.of("b200,4,0,9;b100,3,0,9;b300,3,0,9;s1003,200;")),
                 "401 301 301");
+        // five forces of 200.6; without block 3 they are 200.6, 229.257, 257.914 and 315.229
+        KeelBlocks five = Plans.five(999, 999, 999);
+        five.setShip(1003, 200);
+        DUE.is("three more", Plans.loads(five), "201 201 201 200 200");
+        DUE.is("greatest load", five.pull(3), 315);
+        DUE.is("none for the one that is out", Plans.loads(five), "201 229 258 0 315");
         DUE.is("the greatest fraction has the highest number",
                 Plans.loads(Plans.of("b100,3,0,9;b300,3,0,9;b200,4,0,9;s1001,200;")), "300 300 401");
     }

@@ -160,6 +160,12 @@ final class DockTest {
         DUE.is("overloaded", Plans.about(overloaded, 7), "0 1 0 0");
         DUE.is("the overloaded one is pulled", overloaded.pull(1), 334);
         DUE.is("loads", Plans.loads(overloaded), "334 0 333 333");
+        KeelBlocks added = new KeelBlocks();
+        added.addBlock(0, 1, 0, 999);
+        added.addBlock(100, 1, 0, 999);
+        added.addBlock(400, 1, 0, 999);
+        DUE.is("the first block", added.pull(0), 667);
+        DUE.is("pulled out, not crushed", Plans.about(added, 4), "1 0 0");
         // the light ship rocks on the high block in the middle
         KeelBlocks rocking = Plans.of("b100,10,0,999;b200,10,50,999;b300,10,0,999;s500,200;");
         DUE.is("does not stand", rocking.value(6), 0);

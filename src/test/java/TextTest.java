@@ -83,6 +83,19 @@ final class TextTest {
         Plans.enter(dock, "b1,1,1,1");
         DUE.is("no end", dock.parse(), -18);
         DUE.is("an error is not undoable", dock.undo(), 1);
+        // fewer blocks than before
+        KeelBlocks fewer = Plans.five(999, 999, 999);
+        Plans.enter(fewer, "b100,1,0,500;b300,1,0,500;");
+        DUE.is("two", fewer.parse(), 2);
+        DUE.is("two stand", fewer.value(3), 2);
+        DUE.is("loads on two", Plans.loads(fewer), "500 500");
+        // a block that was crushed, in the place of which there comes another
+        KeelBlocks crushed = Plans.five(500, 249, 199);
+        crushed.cascade();
+        Plans.enter(crushed, "b100,1,0,500;b200,1,0,500;b300,1,0,500;");
+        crushed.parse();
+        crushed.pull(1);
+        DUE.is("pulled out, not crushed", Plans.about(crushed, 4), "0 1 0");
         // a block that was shaved, in the place of which there comes another
         KeelBlocks shaved = Plans.of("b100,1,0,400;b300,1,0,400;");
         shaved.shave();

@@ -3,6 +3,9 @@ final class WhatIfTest {
     private static final Due DUE = new Due("WhatIfTest");
     private static final int[] FAR = {Integer.MIN_VALUE, Integer.MAX_VALUE};
 
+    private static final String[] PLANS = {"b190,1,0,9;b330,1,0,9;s29,190;", "b100,1,0,9;b180,1,0,9;s8,170;",
+        "b0,1,20,9;b210,9,-10,9;b390,30,0,9;s500,220;", "b100,1,0,9;b300,1,0,9;s1,200;", "b20,90,0,9;s70000,41;"};
+
     public static void main(String[] args) {
         promise14();
         promise15();
@@ -12,6 +15,7 @@ final class WhatIfTest {
         promise20();
         promise21();
         nothingChanges();
+        nothingLingers();
         DUE.end();
     }
 
@@ -126,6 +130,9 @@ final class WhatIfTest {
         // with the center 400 all would be on one place, so 395 is the last center with which a ship stands
         DUE.is("395", Plans.of("b394,1,0,9;b396,1,0,9;").bestCenter(), 395);
         // the loads are 250, 500 and 250 with the center 200, but 500, 500 and 0 with 100 already
+        for (String plan : PLANS) {
+            DUE.is("best center of " + plan, Plans.of(plan).bestCenter(), triedCenter(plan));
+        }
         DUE.is("of several the lowest, with three", Plans.of("b0,1,0,9;b200,2,0,9;b400,1,0,9;").bestCenter(), 100);
     }
 
@@ -142,6 +149,11 @@ final class WhatIfTest {
         // with the cap 0 it is far below the others, and bears only where the keel bends down
         KeelBlocks high = Plans.of("b0,1,50,9;b100,1,50,9;s10,10;");
         DUE.is("too low to bear", high.bestPlace(1), 0);
+        // with the cap -1 it would be 30, with the cap 1 it would be 0
+        DUE.is("the cap is 0", Plans.of("b190,1,0,9;b330,1,0,9;s29,190;").bestPlace(5), 40);
+        for (String plan : PLANS) {
+            DUE.is("best place of " + plan, Plans.of(plan).bestPlace(3), triedPlace(plan, 3));
+        }
         KeelBlocks full = Plans.full();
         DUE.is("sixteen blocks", full.bestPlace(1), KeelBlocks.NONE);
         DUE.illegalArgument("the argument comes first", () -> full.bestPlace(0));
@@ -152,6 +164,87 @@ final class WhatIfTest {
         for (int far : FAR) {
             DUE.illegalArgument("far stiffness", () -> high.bestPlace(far));
         }
+    }
+
+    /** The best place as it is found by blocks that are really added. */
+    private static int triedPlace(String plan, int stiffness) {
+        int best = KeelBlocks.NONE;
+        int least = Integer.MAX_VALUE;
+        for (int place = 0; place <= 400; place += 10) {
+            KeelBlocks dock = Plans.of(plan);
+            dock.addBlock(place, stiffness, 0, 1);
+            if (dock.value(6) == 1 && dock.value(8) < least) {
+                best = place;
+                least = dock.value(8);
+            }
+        }
+        return best;
+    }
+
+    /** The best center as it is found by ships that are really set. */
+    private static int triedCenter(String plan) {
+        int best = KeelBlocks.NONE;
+        int least = Integer.MAX_VALUE;
+        for (int center = 0; center <= 400; center += 5) {
+            KeelBlocks dock = Plans.of(plan);
+            dock.setShip(dock.value(0), center);
+            if (dock.value(6) == 1 && dock.value(8) < least) {
+                best = center;
+                least = dock.value(8);
+            }
+        }
+        return best;
+    }
+
+    /** No call takes up what a question or a refused call has tried before. */
+    private static void nothingLingers() {
+        Asked[] asked = {d -> d.setCap(1, 2), d -> d.setLimit(1, 2), d -> d.setShip(900, 205), d -> d.pull(1),
+            d -> d.addBlock(50, 5, 5, 5), d -> d.cascade(), d -> d.shave(), d -> d.parse(), d -> d.undo(),
+            d -> d.loadWithout(0, 1), d -> d.pullable(), d -> d.cascadeSteps(), d -> d.survives() ? 1 : 0,
+            d -> d.shavingSteps(), d -> d.greatestWeight(), d -> d.bestCenter(), d -> d.bestPlace(7)};
+        for (int i = 0; i < asked.length; i++) {
+            for (int middle = 150; middle <= 350; middle += 100) {
+                KeelBlocks plain = Plans.five(450, 300, middle);
+                KeelBlocks spoilt = Plans.five(450, 300, middle);
+                Plans.enter(plain, "b100,1,0,9;b300,1,0,9;");
+                spoil(spoilt);
+                Plans.enter(spoilt, "b100,1,0,9;b300,1,0,9;");
+                Asked call = asked[i];
+                DUE.is("call " + i + " behind others",
+                        Due.outcome(() -> call.of(spoilt)), Due.outcome(() -> call.of(plain)));
+                DUE.is("state behind call " + i, Plans.state(spoilt), Plans.state(plain));
+            }
+        }
+        KeelBlocks crushed = Plans.five(1, 1, 1);
+        crushed.cascade();
+        crushed.greatestWeight();
+        KeelBlocks standing = Plans.five(999, 999, 999);
+        standing.greatestWeight();
+        standing.loadWithout(0, 0);
+        DUE.is("survives", standing.survives(), true);
+        crushed.bestPlace(1);
+        crushed.put(1);
+        DUE.is("one block is back", crushed.value(3), 1);
+    }
+
+    private static void spoil(KeelBlocks dock) {
+        Plans.enter(dock, "s77,77;b1,1,1,1;b");
+        dock.parse();
+        dock.bestPlace(9);
+        dock.greatestWeight();
+        dock.shavingSteps();
+        dock.bestCenter();
+        try {
+            dock.pull(0);
+            dock.undo();
+            DUE.is("the outer block is pulled", true, false);
+        } catch (IllegalStateException e) {
+            DUE.is("the outer block is refused", dock.value(3), 5);
+        }
+    }
+
+    private interface Asked {
+        int of(KeelBlocks dock);
     }
 
     private static void nothingChanges() {
