@@ -8,9 +8,32 @@ final class Due {
     private final String test;
     private int compared = 0;
     private int wrong = 0;
+    private String sentence = "";
+    private int comparedBefore = 0;
 
     Due(String test) {
         this.test = test;
+    }
+
+    /**
+     * Begins the test of a sentence of the document, which is told with each wrong answer. The words must stand in that
+     * section of the document, and at least one answer must be compared before the next sentence.
+     */
+    void sentence(String section, String words) {
+        endSentence();
+        sentence = section + ": " + words;
+        comparedBefore = compared;
+        if (!Document.says(section, words)) {
+            wrong++;
+            System.out.println(test + ": the document does not say: " + sentence);
+        }
+    }
+
+    private void endSentence() {
+        if (!sentence.isEmpty() && compared == comparedBefore) {
+            wrong++;
+            System.out.println(test + ": nothing is compared for: " + sentence);
+        }
     }
 
     void is(String call, long got, long want) {
@@ -55,7 +78,8 @@ final class Due {
         compared++;
         if (!got.equals(want)) {
             wrong++;
-            System.out.println(test + ": " + call + " answered " + got + ", due is " + want);
+            System.out.println(test + ": " + call + " answered " + got + ", due is " + want
+                    + (sentence.isEmpty() ? "" : " [" + sentence + "]"));
         }
     }
 
@@ -65,6 +89,7 @@ final class Due {
 
     /** Ends the test: with exit code 1 if an answer was not the one that is due. */
     void end() {
+        endSentence();
         System.out.println(test + ": " + compared + " answers compared, " + wrong + " wrong");
         if (compared == 0 || wrong != 0) {
             System.exit(1);

@@ -8,10 +8,13 @@ import java.util.List;
 final class ModelTest {
     private static final int RUNS = 120;
     private static final int CALLS = 120;
+    /** The document says nothing of an object behind this call. */
+    private static final int LAST_CALL = 512;
 
     private final Due due = new Due("ModelTest");
     private final List<String> calls = new ArrayList<>();
     private long seed;
+    private int made;
     private KeelBlocks program;
     private Model model;
 
@@ -50,6 +53,7 @@ final class ModelTest {
     private void run(int number) {
         seed = number;
         calls.clear();
+        made = 0;
         program = new KeelBlocks();
         model = new Model();
         int limits = new int[] {300, 2000, 20000, 99999}[next(4)];
@@ -96,8 +100,17 @@ final class ModelTest {
     }
 
     private void same(String call, Due.Call answer, Due.Call want) {
+        if (!mayMake(1)) {
+            return;
+        }
         calls.add(call);
         due.compare(call, Due.outcome(answer), Due.outcome(want));
+    }
+
+    /** Counts calls of the program; answers false if there are no more to be made. */
+    private boolean mayMake(int more) {
+        made += more;
+        return made <= LAST_CALL;
     }
 
     private void change(int caps, int limits, int weights, boolean narrow) {
@@ -144,7 +157,7 @@ final class ModelTest {
             }
             case 1 -> same("pullable()", () -> program.pullable(), () -> model.pullable());
             case 2 -> same("cascadeSteps()", () -> program.cascadeSteps(), () -> model.cascadeSteps());
-            case 3 -> due.is("survives()", program.survives(), model.survives());
+            case 3 -> same("survives()", () -> program.survives() ? 1 : 0, () -> model.survives() ? 1 : 0);
             case 4 -> same("shavingSteps()", () -> program.shavingSteps(), () -> model.shavingSteps());
             case 5 -> same("greatestWeight()", () -> program.greatestWeight(), () -> model.greatestWeight());
             case 6 -> same("bestCenter()", () -> program.bestCenter(), () -> model.bestCenter());
@@ -199,6 +212,9 @@ final class ModelTest {
     }
 
     private void compareState() {
+        if (!mayMake(2)) {
+            return;
+        }
         due.is("digest()", program.digest(), model.digest());
         due.isDouble("tilt()", program.tilt(), model.tilt());
     }
