@@ -7,52 +7,7 @@ final class DockBoundsTest {
     private static final String NO_WHAT = "Throws `IllegalArgumentException` if what is out of range";
 
     public static void main(String[] args) {
-        constant();
-        newObject();
-        addedBlock();
-        addedNumber();
-        addedOutOfRange();
-        addedToSixteen();
-        rangesOfAddedBlocks();
-        capIsSet();
-        cap();
-        capOfNoBlock();
-        capOutOfRange();
-        rangeOfTheCap();
-        limitIsSet();
-        limit();
-        limitOfNoBlock();
-        limitOutOfRange();
-        rangeOfTheLimit();
-        shipIsSet();
-        ship();
-        shipOutOfRange();
-        rangesOfTheShip();
-        pulledIfItStands();
-        pulledWhateverItIsNow();
-        pulledGreatestLoad();
-        pulledNoBlock();
-        pulledIllegally();
-        putBack();
-        putBackLoad();
-        putBackWithoutAShip();
-        putNoBlock();
-        putIllegally();
-        aboutBlocks();
-        loadOfNoShip();
-        shavedSoFar();
-        aboutNoBlock();
-        aboutOutOfRange();
-        values();
-        roundsThatWereMade();
-        greatestLoad();
-        blockWithIt();
-        valuesOutOfRange();
-        balanceIsNotReduced();
-        balanceOfTheLastRound();
-        balanceOfNoShip();
-        balanceOutOfRange();
-        tilt();
+        DUE.each(DockBoundsTest.class);
         DUE.end();
     }
 
@@ -521,7 +476,8 @@ final class DockBoundsTest {
     }
 
     private static void roundsThatWereMade() {
-        DUE.sentence("Promise 11", "7 the rounds that were made (the one in which D is 0 or the set is empty included)");
+        DUE.sentence("Promise 11",
+                "7 the rounds that were made (the one in which D is 0 or the set is empty included)");
         DUE.is("the empty one", new KeelBlocks().value(7), 1);
         DUE.is("the one with D 0", Plans.of("b200,1,0,9;b200,1,0,9;").value(7), 1);
         DUE.is("the second with D 0", Plans.of("b100,1,0,9;b200,1,0,9;").value(7), 2);
@@ -620,18 +576,21 @@ final class DockBoundsTest {
         DUE.is("what 2", dock.balance(2), 40000);
     }
 
-    private static void tilt() {
+    private static void tiltOfNoShip() {
         DUE.sentence("Promise 13", "0.0 if the ship does not stand.");
         DUE.isDouble("no block", new KeelBlocks().tilt(), 0.0);
         DUE.isDouble("D is 0", Plans.of("b200,1,0,9;b200,1,0,9;").tilt(), 0.0);
         DUE.isDouble("D is 0 in round 2", Plans.of("b100,1,0,9;b200,1,5,9;").tilt(), 0.0);
         DUE.isDouble("round 30", Plans.of(
                 "b200,5,0,100;b200,5,0,100;b201,1,50,99999;b0,1,-50,99999;b400,1,-50,99999;s1,200;").tilt(), 0.0);
+    }
+
+    private static void tilt() {
         DUE.sentence("Promise 13", "Returns (b * D), converted to double, divided by D, converted to double");
         DUE.isDouble("level", Plans.of("b100,1,0,9;b300,1,0,9;").tilt(), 0.0);
         DUE.isDouble("to the right", Plans.of("b100,1,0,9;b300,1,0,9;s1000,201;").tilt(), 2000.0 / 40000.0);
         DUE.isDouble("to the left", Plans.of("b100,1,0,9;b300,1,0,9;s1000,199;").tilt(), -2000.0 / 40000.0);
-        DUE.isDouble("a third", Plans.of("b100,1,0,9;b400,1,0,9;s9,251;").tilt(), 18.0 / 90000.0);
+        DUE.isDouble("a fifth of a thousandth", Plans.of("b100,1,0,9;b400,1,0,9;s9,251;").tilt(), 18.0 / 90000.0);
     }
 
     private DockBoundsTest() {

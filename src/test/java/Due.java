@@ -1,3 +1,9 @@
+import java.lang.reflect.InvocationTargetException;
+import java.lang.reflect.Method;
+import java.lang.reflect.Modifier;
+import java.util.Arrays;
+import java.util.Comparator;
+
 /** Compares answers with the ones that are due, and counts those that differ. */
 final class Due {
     /** A call that is made in order to see what it throws. */
@@ -13,6 +19,33 @@ final class Due {
 
     Due(String test) {
         this.test = test;
+    }
+
+    /**
+     * Runs each test of a class: each static method without arguments and answer, so that none can be left out. A test
+     * that is ended by an exception is wrong, and the next one is run.
+     */
+    void each(Class<?> tests) {
+        Method[] methods = tests.getDeclaredMethods();
+        Arrays.sort(methods, Comparator.comparing(Method::getName));
+        for (Method method : methods) {
+            boolean isTest = Modifier.isStatic(method.getModifiers()) && !method.isSynthetic()
+                    && method.getReturnType() == void.class && method.getParameterCount() == 0;
+            if (isTest) {
+                run(method);
+            }
+        }
+    }
+
+    private void run(Method method) {
+        try {
+            method.setAccessible(true);
+            method.invoke(null);
+        } catch (InvocationTargetException e) {
+            compare(method.getName() + "()", "throws " + e.getCause(), "nothing");
+        } catch (IllegalAccessException e) {
+            throw new IllegalStateException(e);
+        }
     }
 
     /**

@@ -6,21 +6,7 @@ final class StateBoundsTest {
     private static final long START = 3433;
 
     public static void main(String[] args) {
-        savedEvenIfNothingChanges();
-        savedByUndoableCallsAlone();
-        fourStates();
-        oldestIsDropped();
-        everythingButTheText();
-        refusedCallsChangeNothing();
-        firstListedException();
-        mostRecentlySaved();
-        statesThatRemain();
-        noSavedState();
-        digestOfANewDock();
-        digestOfValues();
-        digestOfBlocks();
-        digestOfSavedStates();
-        digestOverflows();
+        DUE.each(StateBoundsTest.class);
         DUE.end();
     }
 
@@ -112,19 +98,29 @@ final class StateBoundsTest {
 
     private static void everythingButTheText() {
         DUE.sentence("Terms", "The saved state contains everything except the dock text.");
-        KeelBlocks dock = Plans.of("b0,10,0,999;b100,10,0,999;b200,10,0,180;b300,10,0,999;b400,10,0,999;s1000,200;");
+        KeelBlocks dock = Plans.of("b0,10,0,999;b100,10,0,999;b200,10,0,180;b300,10,0,999;b400,10,0,999;");
         dock.shave();
         dock.setLimit(2, 999);
         dock.pull(1);
-        String before = withoutDigest(dock);
-        Plans.enter(dock, "s7,7;b7,7,7,7;");
+        Plans.enter(dock, "s900,210;b7,7,7,7;");
         dock.parse();
         DUE.is("states that remain", dock.undo(), 3);
-        DUE.is("places, caps, states, steps, ship and balance", withoutDigest(dock), before);
-        DUE.is("the text", dock.clearText(), 14);
+        DUE.is("ship, blocks and balance", withoutDigest(dock), "1000 200 5 4 4 0 1 1 324 0 "
+                + "| 0 10 0 999 0 324 1 0 0 | 100 10 0 999 1 0 0 0 0 | 200 10 -3 999 0 235 1 0 3 "
+                + "| 300 10 0 999 0 235 1 0 0 | 400 10 0 999 0 206 1 0 0 ");
+        DUE.is("the text", dock.clearText(), 18);
         dock.append('x');
         dock.undo();
         DUE.is("the text is not taken back", dock.clearText(), 1);
+        KeelBlocks crushed = Plans.of("b100,1,0,1;b300,1,0,999;b250,1,0,999;s900,210;");
+        crushed.cascade();
+        crushed.setShip(1, 1);
+        crushed.put(0);
+        crushed.undo();
+        DUE.is("a crushed one", Plans.about(crushed, 4), "2 0 0");
+        crushed.undo();
+        DUE.is("weight", crushed.value(0), 900);
+        DUE.is("center", crushed.value(1), 210);
     }
 
     /** All about a dock but its text and the number of its saved states. */
@@ -187,6 +183,20 @@ final class StateBoundsTest {
         DUE.is("the same one again", dock.value(0), 1);
         dock.undo();
         DUE.is("the one before", dock.value(0), 1000);
+        // the same at each place of a ring of four
+        for (int first = 1; first <= 9; first++) {
+            KeelBlocks ring = new KeelBlocks();
+            for (int i = 1; i <= first; i++) {
+                ring.setShip(i, i);
+            }
+            ring.undo();
+            ring.setShip(100, 100);
+            ring.setShip(101, 101);
+            ring.undo();
+            DUE.is("the last but one behind " + first, ring.value(0), 100);
+            ring.undo();
+            DUE.is("the one from before both behind " + first, ring.value(0), first == 1 ? 1000 : first - 1);
+        }
     }
 
     private static void statesThatRemain() {
@@ -281,22 +291,32 @@ final class StateBoundsTest {
     private static void digestOverflows() {
         DUE.sentence("Promise 26", "Returns the hash, with the overflow of long arithmetic ignored.");
         KeelBlocks dock = Plans.full();
-        BigInteger hash = BigInteger.valueOf(START);
-        hash = next(hash, 0);
+        DUE.is("it overflows", hash(dock).bitLength() > 64, true);
+        DUE.is("the last 64 bits", dock.digest(), hash(dock).longValue());
+        int belowNothing = 0;
+        for (int stiffness = 1; stiffness <= 20; stiffness++) {
+            KeelBlocks other = Plans.of("b100," + stiffness + ",0,9;b300,1,0,9;");
+            DUE.is("the last 64 bits with " + stiffness, other.digest(), hash(other).longValue());
+            belowNothing += other.digest() < 0 ? 1 : 0;
+        }
+        DUE.is("some are below 0, and some are not", belowNothing > 0 && belowNothing < 20, true);
+    }
+
+    /** The hash of a dock without a text, from which nothing is cut off. */
+    private static BigInteger hash(KeelBlocks dock) {
+        BigInteger hash = next(BigInteger.valueOf(START), 0);
         for (int what = 0; what <= 9; what++) {
             hash = next(hash, dock.value(what));
         }
         for (int what = 0; what <= 2; what++) {
             hash = next(hash, dock.balance(what));
         }
-        for (int block = 0; block < 16; block++) {
+        for (int block = 0; block < dock.value(2); block++) {
             for (int what = 0; what <= 8; what++) {
                 hash = next(hash, dock.block(block, what));
             }
         }
-        hash = next(hash, 4);
-        DUE.is("it overflows", hash.bitLength() > 64, true);
-        DUE.is("the last 64 bits", dock.digest(), hash.longValue());
+        return next(hash, Math.min(4, Math.max(1, dock.value(2) - 1)));
     }
 
     private static BigInteger next(BigInteger hash, long value) {

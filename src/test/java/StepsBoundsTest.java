@@ -6,26 +6,7 @@ final class StepsBoundsTest {
     private static final String FALLS = "b150,9,45,225;b300,1,45,225;b0,3,35,25;s100,100;";
 
     public static void main(String[] args) {
-        cascadeOfAllAtOnce();
-        cascadeAsLongAsItStands();
-        cascadeAsLongAsOverloaded();
-        cascadeInSteps();
-        cascadeIsUndoable();
-        crushedBlocks();
-        stepsOfACascade();
-        survivors();
-        capIsLoweredByOne();
-        shavingAsLongAsItStands();
-        shavingAsLongAsOverloaded();
-        shavingBelowAHundred();
-        greatestExcess();
-        lowestOfSeveral();
-        capAtItsEnd();
-        shavedBalance();
-        goodShaving();
-        shavingIsUndoable();
-        shavedSteps();
-        shavingStepsAndWhatIsBad();
+        DUE.each(StepsBoundsTest.class);
         DUE.end();
     }
 

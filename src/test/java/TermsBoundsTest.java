@@ -11,32 +11,7 @@ final class TermsBoundsTest {
             "b200,5,0,100;b200,5,0,100;b201,1,50,99999;b0,1,-50,99999;b400,1,-50,99999;s1,200;";
 
     public static void main(String[] args) {
-        callsOfAnObject();
-        sixteenBlocks();
-        numbersOfBlocks();
-        placesOfBlocks();
-        stiffnessesOfBlocks();
-        capsOfBlocks();
-        limitsOfBlocks();
-        statesOfBlocks();
-        weightOfTheShip();
-        centerOfTheShip();
-        twoDifferentPlaces();
-        exactFractions();
-        firstRoundHasAllThatStand();
-        laterRoundsHaveAllThatStand();
-        laterRoundsHaveOnlyThoseThatStand();
-        pressOfNothing();
-        roundsThatEndBehindTheSameSet();
-        roundsThatEndBehindThirty();
-        roundsThatEndEarly();
-        noLoadsIfItDoesNotStand();
-        lastSetBears();
-        forcesAreRoundedDown();
-        greatestFractionsGetOneMore();
-        equalFractions();
-        otherBlocksHaveNoLoad();
-        loadAtTheLimit();
+        DUE.each(TermsBoundsTest.class);
         DUE.end();
     }
 

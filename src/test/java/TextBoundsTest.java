@@ -3,37 +3,7 @@ final class TextBoundsTest {
     private static final Due DUE = new Due("TextBoundsTest");
 
     public static void main(String[] args) {
-        hundredAndSixtyBytes();
-        termination();
-        blocks();
-        ships();
-        threeDigits();
-        capDigits();
-        limitDigits();
-        weightDigits();
-        spaces();
-        noItems();
-        zerosInFront();
-        minusZero();
-        firstByteThatCannotStand();
-        digitTooMany();
-        seventeenthBlock();
-        textThatEndsTooEarly();
-        firstDigitOfANumberOutOfRange();
-        whateverFollowsTheNumber();
-        rangesOfTheText();
-        rangeOfTheByte();
-        appendedLength();
-        appendedOutOfRange();
-        appendedToAFullText();
-        emptiedText();
-        clearedText();
-        parsedBlocks();
-        parsedShip();
-        parsedTextStays();
-        parsedNumber();
-        parsedWithAnError();
-        parseIsUndoable();
+        DUE.each(TextBoundsTest.class);
         DUE.end();
     }
 
@@ -82,7 +52,8 @@ final class TextBoundsTest {
     }
 
     private static void blocks() {
-        DUE.sentence("Terms", "\"b\", the place, a comma, the stiffness, a comma, the cap (digits, or \"-\" and digits), "
+        DUE.sentence("Terms",
+                "\"b\", the place, a comma, the stiffness, a comma, the cap (digits, or \"-\" and digits), "
                 + "a comma, and the limit: a block");
         due("b1,1,1,1;", 1);
         due("b1,1,-1,1;", 1);
@@ -103,7 +74,8 @@ final class TextBoundsTest {
         error("b1,1,1,-1;", 7);
         KeelBlocks dock = Plans.of("b2,3,-4,5;");
         DUE.is("place, stiffness, cap and limit",
-                dock.block(0, 0) + " " + dock.block(0, 1) + " " + dock.block(0, 2) + " " + dock.block(0, 3), "2 3 -4 5");
+                dock.block(0, 0) + " " + dock.block(0, 1) + " " + dock.block(0, 2) + " " + dock.block(0, 3),
+                "2 3 -4 5");
     }
 
     private static void ships() {
@@ -202,7 +174,8 @@ final class TextBoundsTest {
     }
 
     private static void firstByteThatCannotStand() {
-        DUE.sentence("Terms", "The syntax error position is the index of the first byte that cannot stand where it stands");
+        DUE.sentence("Terms",
+                "The syntax error position is the index of the first byte that cannot stand where it stands");
         String whole = "b10,10,-10,10;s10,10;";
         for (int at = 0; at < whole.length(); at++) {
             for (int sign : new int[] {0, 32, '/', ':', 'x', 127}) {
@@ -259,7 +232,8 @@ final class TextBoundsTest {
     }
 
     private static void firstDigitOfANumberOutOfRange() {
-        DUE.sentence("Terms", "For a number that is out of its range it is the index of its first digit (not of the sign)");
+        DUE.sentence("Terms",
+                "For a number that is out of its range it is the index of its first digit (not of the sign)");
         error("b401,1,1,1;", 1);
         error("b1,0,1,1;", 3);
         error("b1,101,1,1;", 3);
@@ -276,8 +250,10 @@ final class TextBoundsTest {
     }
 
     private static void whateverFollowsTheNumber() {
-        DUE.sentence("Terms", "found when a byte that is no digit, whichever it is, or the end of the text, follows it.");
-        for (String behind : new String[] {",", ";", "-", "b", "s", " ", "/", ":", "x", "" + (char) 0, "" + (char) 127, ""}) {
+        DUE.sentence("Terms",
+                "found when a byte that is no digit, whichever it is, or the end of the text, follows it.");
+        String[] signs = {",", ";", "-", "b", "s", " ", "/", ":", "x", "" + (char) 0, "" + (char) 127, ""};
+        for (String behind : signs) {
             error("b401" + behind, 1);
             error("b1,0" + behind, 3);
             error("b1,1,51" + behind, 5);
@@ -377,6 +353,7 @@ final class TextBoundsTest {
         DUE.is("fewer than before", dock.parse(), 3);
         DUE.is("places", Plans.about(dock, 0), "1 2 3");
         DUE.is("all stand", Plans.about(dock, 4), "0 0 0");
+        DUE.is("and no other", dock.value(3), 3);
         DUE.is("none is shaved", Plans.about(dock, 8), "0 0 0");
         DUE.outOfBounds("no block 3", () -> dock.block(3, 0));
         DUE.is("the next one", dock.addBlock(4, 1, 1, 1), 3);
@@ -414,7 +391,8 @@ final class TextBoundsTest {
     }
 
     private static void parsedWithAnError() {
-        DUE.sentence("Promise 24", "-10 minus the syntax error position if there is a syntax error (then nothing changes).");
+        DUE.sentence("Promise 24",
+                "-10 minus the syntax error position if there is a syntax error (then nothing changes).");
         for (String text : new String[] {"x", "s1,1;x", "b1,1,1,1;b", "s1,1;b1,1,1,1;b2,2,2,2"}) {
             KeelBlocks dock = Plans.five(499, 249, 199);
             Plans.enter(dock, text);
