@@ -183,6 +183,13 @@ final class StepsBoundsTest {
         KeelBlocks later = Plans.of("b200,1,-50,9;b300,1,0,4;b100,1,0,4;s30,200;");
         later.shave();
         DUE.is("the lowest of those that are overloaded", Plans.about(later, 2), "-50 -50 0");
+        // both are overloaded by 100; place, stiffness, cap, limit and load of one are all lower than the other's
+        KeelBlocks high = Plans.of("b300,9,40,650;b100,1,0,150;s1000,250;");
+        DUE.is("steps of the one that was added first", high.shave(), 90);
+        DUE.is("the one that was added first, though all else of it is higher", Plans.about(high, 2), "-50 0");
+        KeelBlocks low = Plans.of("b100,1,0,150;b300,9,40,650;s1000,250;");
+        DUE.is("steps of the other one, if it was added first", low.shave(), 50);
+        DUE.is("the other one, if it was added first", Plans.about(low, 2), "-50 40");
     }
 
     private static void capAtItsEnd() {
